@@ -1,0 +1,35 @@
+/** Counts and prints the calls whose answer is not the one that is due. */
+final class Checks {
+    private int wrong;
+
+    void due(String call, int got, int want) {
+        if (got != want) {
+            tell(call + " answered " + got + ", due is " + want);
+        }
+    }
+
+    void due(String call, boolean got, boolean want) {
+        if (got != want) {
+            tell(call + " answered " + got + ", due is " + want);
+        }
+    }
+
+    /** That the answer of x gives its variables just these values, from variable 0 on. */
+    void dueAnswer(String when, ExplainingSolver x, int... values) {
+        for (int i = 0; i < values.length; i++) {
+            due(when + ": value(" + i + ")", x.value(i), values[i]);
+        }
+    }
+
+    void tell(String fault) {
+        wrong++;
+        System.out.println(fault);
+    }
+
+    void end() {
+        if (wrong != 0) {
+            System.out.println(wrong + " answers are not as due");
+            System.exit(1);
+        }
+    }
+}
