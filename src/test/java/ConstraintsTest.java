@@ -22,6 +22,7 @@ public final class ConstraintsTest {
         fullOfEachKind();
         withoutVariables();
         addingTakesTheAnswer();
+        wholeSpace();
         CHECKS.end();
     }
 
@@ -323,6 +324,26 @@ public final class ConstraintsTest {
             CHECKS.due("kind " + kind, numbers[kind], kind);
             CHECKS.due("after kind " + kind + ": value(0)", x.value(0), ExplainingSolver.NONE);
         }
+    }
+
+    /** With 4096 points, constraints that leave only the last of them. */
+    private static void wholeSpace() {
+        ExplainingSolver x = new ExplainingSolver();
+        for (int n = 0; n < 4; n++) {
+            x.variable(-3, 4);
+        }
+        CHECKS.due("4096 points: linear", x.linear(0, -1, 1, -1, 2, -1, -12), 0);
+        CHECKS.due("4096 points: maximum", x.maximum(3, 0, 1, 2), 1);
+        CHECKS.due("4096 points: solve()", x.solve(), true);
+        CHECKS.dueAnswer("4096 points", x, 4, 4, 4, 4);
+        CHECKS.due("4096 points: implies(3, 3)", x.implies(3, 3), false);
+        CHECKS.due("4096 points: different(15)", x.different(15), 2);
+        CHECKS.due("4096 points: greatest(3)", x.greatest(3), ExplainingSolver.NONE);
+        for (int n = 0; n < 3; n++) {
+            CHECKS.due("4096 points: drop()", x.drop(), true);
+        }
+        CHECKS.due("4096 points: best(3, false)", x.best(3, false), true);
+        CHECKS.dueAnswer("4096 points, no constraint", x, -3, -3, -3, -3);
     }
 
     /** Adds a constraint of this kind under which all variables may be 0. */
