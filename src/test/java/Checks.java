@@ -21,6 +21,22 @@ final class Checks {
         }
     }
 
+    /** An object with variables that have one value each. */
+    static ExplainingSolver fixed(int... values) {
+        ExplainingSolver x = new ExplainingSolver();
+        for (int value : values) {
+            x.variable(value, value);
+        }
+        return x;
+    }
+
+    /** That the constraint just added is number 0, and whether it holds in the one point there is. */
+    void dueHolds(String call, ExplainingSolver x, int number, boolean want) {
+        due(call, number, 0);
+        due(call + ", then solve()", x.solve(), want);
+        x.drop();
+    }
+
     void tell(String fault) {
         wrong++;
         System.out.println(fault);

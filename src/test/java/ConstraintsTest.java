@@ -26,22 +26,6 @@ public final class ConstraintsTest {
         CHECKS.end();
     }
 
-    /** An object with variables that have one value each. */
-    private static ExplainingSolver fixed(int... values) {
-        ExplainingSolver x = new ExplainingSolver();
-        for (int value : values) {
-            x.variable(value, value);
-        }
-        return x;
-    }
-
-    /** Whether the constraint that was just added is number 0 and holds in the one point there is. */
-    private static void dueHolds(String call, ExplainingSolver x, int number, boolean want) {
-        CHECKS.due(call, number, 0);
-        CHECKS.due(call + ", then solve()", x.solve(), want);
-        x.drop();
-    }
-
     private static void dueRefused(String call, ExplainingSolver x, int got, int want) {
         CHECKS.due(call, got, want);
         CHECKS.due(call + ", then constraints()", x.constraints(), want == FULL ? 12 : 0);
@@ -59,21 +43,21 @@ public final class ConstraintsTest {
     }
 
     private static void linear() {
-        ExplainingSolver x = fixed(2, -3, 5);
-        dueHolds("4 - 9 - 10 <= -15", x, x.linear(0, 2, 1, 3, 2, -2, -15), true);
-        dueHolds("4 - 9 - 10 <= -16", x, x.linear(0, 2, 1, 3, 2, -2, -16), false);
-        dueHolds("2 + 2 + 2 <= 6", x, x.linear(0, 1, 0, 1, 0, 1, 6), true);
-        dueHolds("2 + 2 + 2 <= 5", x, x.linear(0, 1, 0, 1, 0, 1, 5), false);
-        dueHolds("0 + 0 + 0 <= 0", x, x.linear(-1, 9, -1, 9, -1, 9, 0), true);
-        dueHolds("0 + 0 + 0 <= -1", x, x.linear(-1, -9, -1, -9, -1, -9, -1), false);
-        dueHolds("0 - 3 + 0 <= -3", x, x.linear(-1, 9, 1, 1, -1, 9, -3), true);
-        dueHolds("0 - 3 + 0 <= -4", x, x.linear(-1, 9, 1, 1, -1, 9, -4), false);
-        dueHolds("0 + 0 - 45 <= -45", x, x.linear(-1, 9, -1, 9, 2, -9, -45), true);
-        dueHolds("0 + 0 - 45 <= -46", x, x.linear(-1, 9, -1, 9, 2, -9, -46), false);
-        dueHolds("18 <= 18", x, x.linear(0, 9, -1, 0, -1, 0, 18), true);
-        dueHolds("18 <= 17", x, x.linear(0, 9, -1, 0, -1, 0, 17), false);
-        dueHolds("at most 1000", x, x.linear(0, 9, 1, 9, 2, 9, 1000), true);
-        dueHolds("at most -1000", x, x.linear(0, 9, 1, 9, 2, 9, -1000), false);
+        ExplainingSolver x = Checks.fixed(2, -3, 5);
+        CHECKS.dueHolds("4 - 9 - 10 <= -15", x, x.linear(0, 2, 1, 3, 2, -2, -15), true);
+        CHECKS.dueHolds("4 - 9 - 10 <= -16", x, x.linear(0, 2, 1, 3, 2, -2, -16), false);
+        CHECKS.dueHolds("2 + 2 + 2 <= 6", x, x.linear(0, 1, 0, 1, 0, 1, 6), true);
+        CHECKS.dueHolds("2 + 2 + 2 <= 5", x, x.linear(0, 1, 0, 1, 0, 1, 5), false);
+        CHECKS.dueHolds("0 + 0 + 0 <= 0", x, x.linear(-1, 9, -1, 9, -1, 9, 0), true);
+        CHECKS.dueHolds("0 + 0 + 0 <= -1", x, x.linear(-1, -9, -1, -9, -1, -9, -1), false);
+        CHECKS.dueHolds("0 - 3 + 0 <= -3", x, x.linear(-1, 9, 1, 1, -1, 9, -3), true);
+        CHECKS.dueHolds("0 - 3 + 0 <= -4", x, x.linear(-1, 9, 1, 1, -1, 9, -4), false);
+        CHECKS.dueHolds("0 + 0 - 45 <= -45", x, x.linear(-1, 9, -1, 9, 2, -9, -45), true);
+        CHECKS.dueHolds("0 + 0 - 45 <= -46", x, x.linear(-1, 9, -1, 9, 2, -9, -46), false);
+        CHECKS.dueHolds("18 <= 18", x, x.linear(0, 9, -1, 0, -1, 0, 18), true);
+        CHECKS.dueHolds("18 <= 17", x, x.linear(0, 9, -1, 0, -1, 0, 17), false);
+        CHECKS.dueHolds("at most 1000", x, x.linear(0, 9, 1, 9, 2, 9, 1000), true);
+        CHECKS.dueHolds("at most -1000", x, x.linear(0, 9, 1, 9, 2, 9, -1000), false);
     }
 
     private static void linearRefused() {
@@ -98,16 +82,16 @@ public final class ConstraintsTest {
     private static void reified() {
         int[] truths = {-1, 0, 1, 2};
         for (int truth : truths) {
-            ExplainingSolver x = fixed(truth, 4, 3);
+            ExplainingSolver x = Checks.fixed(truth, 4, 3);
             String r = "x(r) " + truth;
-            dueHolds(r + ", 4 <= 3 + 1", x, x.reified(0, 1, 2, 1), truth >= 1);
-            dueHolds(r + ", 4 <= 3 + 2", x, x.reified(0, 1, 2, 2), truth >= 1);
-            dueHolds(r + ", 4 <= 3 + 0", x, x.reified(0, 1, 2, 0), truth < 1);
-            dueHolds(r + ", 3 <= 4 - 1", x, x.reified(0, 2, 1, -1), truth >= 1);
-            dueHolds(r + ", 3 <= 4 - 2", x, x.reified(0, 2, 1, -2), truth < 1);
-            dueHolds(r + ", 4 <= 4 + 100", x, x.reified(0, 1, 1, 100), truth >= 1);
-            dueHolds(r + ", 4 <= 4 - 100", x, x.reified(0, 1, 1, -100), truth < 1);
-            dueHolds(r + ", all the same", x, x.reified(0, 0, 0, 0), truth >= 1);
+            CHECKS.dueHolds(r + ", 4 <= 3 + 1", x, x.reified(0, 1, 2, 1), truth >= 1);
+            CHECKS.dueHolds(r + ", 4 <= 3 + 2", x, x.reified(0, 1, 2, 2), truth >= 1);
+            CHECKS.dueHolds(r + ", 4 <= 3 + 0", x, x.reified(0, 1, 2, 0), truth < 1);
+            CHECKS.dueHolds(r + ", 3 <= 4 - 1", x, x.reified(0, 2, 1, -1), truth >= 1);
+            CHECKS.dueHolds(r + ", 3 <= 4 - 2", x, x.reified(0, 2, 1, -2), truth < 1);
+            CHECKS.dueHolds(r + ", 4 <= 4 + 100", x, x.reified(0, 1, 1, 100), truth >= 1);
+            CHECKS.dueHolds(r + ", 4 <= 4 - 100", x, x.reified(0, 1, 1, -100), truth < 1);
+            CHECKS.dueHolds(r + ", all the same", x, x.reified(0, 0, 0, 0), truth >= 1);
         }
     }
 
@@ -125,17 +109,17 @@ public final class ConstraintsTest {
 
     private static void maximum() {
         for (int most = -7; most <= 5; most++) {
-            ExplainingSolver x = fixed(most, -7, -2, 4);
+            ExplainingSolver x = Checks.fixed(most, -7, -2, 4);
             String r = "x(r) " + most;
-            dueHolds(r + " of -7", x, x.maximum(0, 1, -1, -1), most == -7);
-            dueHolds(r + " of -7, -2", x, x.maximum(0, 1, 2, -1), most == -2);
-            dueHolds(r + " of -7, none, 4", x, x.maximum(0, 1, -1, 3), most == 4);
-            dueHolds(r + " of -7, -2, 4", x, x.maximum(0, 1, 2, 3), most == 4);
-            dueHolds(r + " of 4, -7, -2", x, x.maximum(0, 3, 1, 2), most == 4);
-            dueHolds(r + " of -2, 4, -7", x, x.maximum(0, 2, 3, 1), most == 4);
-            dueHolds(r + " of -2, -2, -7", x, x.maximum(0, 2, 2, 1), most == -2);
-            dueHolds(r + " of itself", x, x.maximum(0, 0, -1, -1), true);
-            dueHolds(r + " of itself, -2", x, x.maximum(0, 0, 2, -1), most >= -2);
+            CHECKS.dueHolds(r + " of -7", x, x.maximum(0, 1, -1, -1), most == -7);
+            CHECKS.dueHolds(r + " of -7, -2", x, x.maximum(0, 1, 2, -1), most == -2);
+            CHECKS.dueHolds(r + " of -7, none, 4", x, x.maximum(0, 1, -1, 3), most == 4);
+            CHECKS.dueHolds(r + " of -7, -2, 4", x, x.maximum(0, 1, 2, 3), most == 4);
+            CHECKS.dueHolds(r + " of 4, -7, -2", x, x.maximum(0, 3, 1, 2), most == 4);
+            CHECKS.dueHolds(r + " of -2, 4, -7", x, x.maximum(0, 2, 3, 1), most == 4);
+            CHECKS.dueHolds(r + " of -2, -2, -7", x, x.maximum(0, 2, 2, 1), most == -2);
+            CHECKS.dueHolds(r + " of itself", x, x.maximum(0, 0, -1, -1), true);
+            CHECKS.dueHolds(r + " of itself, -2", x, x.maximum(0, 0, 2, -1), most >= -2);
         }
     }
 
@@ -159,16 +143,16 @@ public final class ConstraintsTest {
         }
         for (int place = -2; place <= 9; place++) {
             for (int entry = -20; entry <= 20; entry++) {
-                ExplainingSolver x = fixed(entry, place);
+                ExplainingSolver x = Checks.fixed(entry, place);
                 boolean want = place >= 0 && place <= 7 && bytes[place] == entry;
-                dueHolds("entry " + entry + " at " + place, x, x.element(0, 1, table), want);
+                CHECKS.dueHolds("entry " + entry + " at " + place, x, x.element(0, 1, table), want);
             }
         }
-        ExplainingSolver x = fixed(0, 3, 8);
-        dueHolds("3 at 3", x, x.element(1, 1, 0x0303030303030303L), true);
-        dueHolds("8 at 8, which is no place", x, x.element(2, 2, 0x0808080808080808L), false);
-        dueHolds("byte 128 is -128", x, x.element(0, 0, 128), false);
-        dueHolds("bit 8 is byte 1's", x, x.element(0, 0, 256), true);
+        ExplainingSolver x = Checks.fixed(0, 3, 8);
+        CHECKS.dueHolds("3 at 3", x, x.element(1, 1, 0x0303030303030303L), true);
+        CHECKS.dueHolds("8 at 8, which is no place", x, x.element(2, 2, 0x0808080808080808L), false);
+        CHECKS.dueHolds("byte 128 is -128", x, x.element(0, 0, 128), false);
+        CHECKS.dueHolds("bit 8 is byte 1's", x, x.element(0, 0, 256), true);
     }
 
     private static void elementRefused() {
@@ -180,15 +164,15 @@ public final class ConstraintsTest {
     }
 
     private static void different() {
-        ExplainingSolver x = fixed(-20, 20, 3, 3, 12, -20, 0, 4);
-        dueHolds("different none", x, x.different(0), true);
-        dueHolds("different one", x, x.different(8), true);
-        dueHolds("different 3, 3", x, x.different(12), false);
-        dueHolds("different -20, 20", x, x.different(3), true);
-        dueHolds("different -20, -20", x, x.different(33), false);
-        dueHolds("different -20, 12", x, x.different(17), true);
-        dueHolds("different 20, 3, 12, -20, 0, 4", x, x.different(0b11110110), true);
-        dueHolds("different all", x, x.different(255), false);
+        ExplainingSolver x = Checks.fixed(-20, 20, 3, 3, 12, -20, 0, 4);
+        CHECKS.dueHolds("different none", x, x.different(0), true);
+        CHECKS.dueHolds("different one", x, x.different(8), true);
+        CHECKS.dueHolds("different 3, 3", x, x.different(12), false);
+        CHECKS.dueHolds("different -20, 20", x, x.different(3), true);
+        CHECKS.dueHolds("different -20, -20", x, x.different(33), false);
+        CHECKS.dueHolds("different -20, 12", x, x.different(17), true);
+        CHECKS.dueHolds("different 20, 3, 12, -20, 0, 4", x, x.different(0b11110110), true);
+        CHECKS.dueHolds("different all", x, x.different(255), false);
     }
 
     private static void differentRefused() {
@@ -201,26 +185,26 @@ public final class ConstraintsTest {
     }
 
     private static void cumulative() {
-        ExplainingSolver x = fixed(0, 2, 4, 4);
-        dueHolds("0-1 and 2-3", x, x.cumulative(3, 0x22, 0x33, 3), true);
-        dueHolds("0-2 and 2-3", x, x.cumulative(3, 0x23, 0x33, 5), false);
-        dueHolds("0-2 and 2-3, room for both", x, x.cumulative(3, 0x23, 0x33, 6), true);
-        dueHolds("tasks that are not of the set", x, x.cumulative(4, 0xffff, 0xffff, 15), true);
-        dueHolds("a task alone needs too much", x, x.cumulative(4, 0x100, 0xf00, 14), false);
-        dueHolds("a task without duration", x, x.cumulative(4, 0, 0xf00, 0), true);
-        dueHolds("one without duration inside another", x, x.cumulative(3, 0x0f, 0xff, 15), true);
-        dueHolds("tasks without need", x, x.cumulative(15, 0xffff, 0, 0), true);
-        dueHolds("all at moment 4", x, x.cumulative(15, 0xffff, 0xffff, 59), false);
-        dueHolds("all at moment 4, room", x, x.cumulative(15, 0xffff, 0xffff, 60), true);
-        dueHolds("same moments", x, x.cumulative(12, 0x1100, 0x2100, 2), false);
-        dueHolds("same moments, room", x, x.cumulative(12, 0x1100, 0x2100, 3), true);
-        dueHolds("no task", x, x.cumulative(0, -1, -1, 0), true);
-        dueHolds("a long's higher bits", x, x.cumulative(3, 0x7700000022L, 0x7700000033L, 3), true);
-        ExplainingSolver y = fixed(-20, -6, 20, 0, 0, 0, 0, 0);
-        dueHolds("-20 to -6 meets -6", y, y.cumulative(3, 0x1f, 0x11, 1), false);
-        dueHolds("-20 to -7 misses -6", y, y.cumulative(3, 0x1e, 0x11, 1), true);
-        dueHolds("task 7 of eight", y, y.cumulative(192, 0xff000000L, 0xf1000000L, 15), false);
-        dueHolds("task 7 of eight, room", y, y.cumulative(192, 0xff000000L, 0xf1000000L, 16), true);
+        ExplainingSolver x = Checks.fixed(0, 2, 4, 4);
+        CHECKS.dueHolds("0-1 and 2-3", x, x.cumulative(3, 0x22, 0x33, 3), true);
+        CHECKS.dueHolds("0-2 and 2-3", x, x.cumulative(3, 0x23, 0x33, 5), false);
+        CHECKS.dueHolds("0-2 and 2-3, room for both", x, x.cumulative(3, 0x23, 0x33, 6), true);
+        CHECKS.dueHolds("tasks that are not of the set", x, x.cumulative(4, 0xffff, 0xffff, 15), true);
+        CHECKS.dueHolds("a task alone needs too much", x, x.cumulative(4, 0x100, 0xf00, 14), false);
+        CHECKS.dueHolds("a task without duration", x, x.cumulative(4, 0, 0xf00, 0), true);
+        CHECKS.dueHolds("one without duration inside another", x, x.cumulative(3, 0x0f, 0xff, 15), true);
+        CHECKS.dueHolds("tasks without need", x, x.cumulative(15, 0xffff, 0, 0), true);
+        CHECKS.dueHolds("all at moment 4", x, x.cumulative(15, 0xffff, 0xffff, 59), false);
+        CHECKS.dueHolds("all at moment 4, room", x, x.cumulative(15, 0xffff, 0xffff, 60), true);
+        CHECKS.dueHolds("same moments", x, x.cumulative(12, 0x1100, 0x2100, 2), false);
+        CHECKS.dueHolds("same moments, room", x, x.cumulative(12, 0x1100, 0x2100, 3), true);
+        CHECKS.dueHolds("no task", x, x.cumulative(0, -1, -1, 0), true);
+        CHECKS.dueHolds("a long's higher bits", x, x.cumulative(3, 0x7700000022L, 0x7700000033L, 3), true);
+        ExplainingSolver y = Checks.fixed(-20, -6, 20, 0, 0, 0, 0, 0);
+        CHECKS.dueHolds("-20 to -6 meets -6", y, y.cumulative(3, 0x1f, 0x11, 1), false);
+        CHECKS.dueHolds("-20 to -7 misses -6", y, y.cumulative(3, 0x1e, 0x11, 1), true);
+        CHECKS.dueHolds("task 7 of eight", y, y.cumulative(192, 0xff000000L, 0xf1000000L, 15), false);
+        CHECKS.dueHolds("task 7 of eight, room", y, y.cumulative(192, 0xff000000L, 0xf1000000L, 16), true);
     }
 
     private static void cumulativeRefused() {
@@ -233,27 +217,27 @@ public final class ConstraintsTest {
     }
 
     private static void clause() {
-        ExplainingSolver x = fixed(2, -3, 5);
-        dueHolds("no parts", x, x.clause(-1, 0, -1, 0, -1, 0, 0), false);
-        dueHolds("no parts, how 7", x, x.clause(-1, 0, -1, 0, -1, 0, 7), false);
-        dueHolds("2 <= 2", x, x.clause(0, 2, -1, 100, -1, 100, 0), true);
-        dueHolds("2 <= 1", x, x.clause(0, 1, -1, 100, -1, 100, 6), false);
-        dueHolds("2 >= 2", x, x.clause(0, 2, -1, 100, -1, 100, 1), true);
-        dueHolds("2 >= 3", x, x.clause(0, 3, -1, -100, -1, 100, 1), false);
-        dueHolds("-3 <= -3", x, x.clause(-1, 100, 1, -3, -1, 100, 0), true);
-        dueHolds("-3 <= -4", x, x.clause(-1, 100, 1, -4, -1, 100, 5), false);
-        dueHolds("-3 >= -3", x, x.clause(-1, 100, 1, -3, -1, 100, 2), true);
-        dueHolds("-3 >= -2", x, x.clause(-1, 100, 1, -2, -1, 100, 2), false);
-        dueHolds("5 <= 5", x, x.clause(-1, 100, -1, 100, 2, 5, 0), true);
-        dueHolds("5 <= 4", x, x.clause(-1, 100, -1, 100, 2, 4, 3), false);
-        dueHolds("5 >= 5", x, x.clause(-1, 100, -1, 100, 2, 5, 4), true);
-        dueHolds("5 >= 6", x, x.clause(-1, 100, -1, 100, 2, 6, 4), false);
-        dueHolds("2 <= 1 or -3 <= -4 or 5 <= 4", x, x.clause(0, 1, 1, -4, 2, 4, 0), false);
-        dueHolds("2 <= 1 or -3 <= -4 or 5 >= 4", x, x.clause(0, 1, 1, -4, 2, 4, 4), true);
-        dueHolds("2 <= 1 or -3 >= -4 or 5 <= 4", x, x.clause(0, 1, 1, -4, 2, 4, 2), true);
-        dueHolds("2 >= 1 or -3 <= -4 or 5 <= 4", x, x.clause(0, 1, 1, -4, 2, 4, 1), true);
-        dueHolds("2 >= -100", x, x.clause(0, -100, -1, 0, -1, 0, 1), true);
-        dueHolds("2 >= 100", x, x.clause(0, 100, -1, 0, -1, 0, 1), false);
+        ExplainingSolver x = Checks.fixed(2, -3, 5);
+        CHECKS.dueHolds("no parts", x, x.clause(-1, 0, -1, 0, -1, 0, 0), false);
+        CHECKS.dueHolds("no parts, how 7", x, x.clause(-1, 0, -1, 0, -1, 0, 7), false);
+        CHECKS.dueHolds("2 <= 2", x, x.clause(0, 2, -1, 100, -1, 100, 0), true);
+        CHECKS.dueHolds("2 <= 1", x, x.clause(0, 1, -1, 100, -1, 100, 6), false);
+        CHECKS.dueHolds("2 >= 2", x, x.clause(0, 2, -1, 100, -1, 100, 1), true);
+        CHECKS.dueHolds("2 >= 3", x, x.clause(0, 3, -1, -100, -1, 100, 1), false);
+        CHECKS.dueHolds("-3 <= -3", x, x.clause(-1, 100, 1, -3, -1, 100, 0), true);
+        CHECKS.dueHolds("-3 <= -4", x, x.clause(-1, 100, 1, -4, -1, 100, 5), false);
+        CHECKS.dueHolds("-3 >= -3", x, x.clause(-1, 100, 1, -3, -1, 100, 2), true);
+        CHECKS.dueHolds("-3 >= -2", x, x.clause(-1, 100, 1, -2, -1, 100, 2), false);
+        CHECKS.dueHolds("5 <= 5", x, x.clause(-1, 100, -1, 100, 2, 5, 0), true);
+        CHECKS.dueHolds("5 <= 4", x, x.clause(-1, 100, -1, 100, 2, 4, 3), false);
+        CHECKS.dueHolds("5 >= 5", x, x.clause(-1, 100, -1, 100, 2, 5, 4), true);
+        CHECKS.dueHolds("5 >= 6", x, x.clause(-1, 100, -1, 100, 2, 6, 4), false);
+        CHECKS.dueHolds("2 <= 1 or -3 <= -4 or 5 <= 4", x, x.clause(0, 1, 1, -4, 2, 4, 0), false);
+        CHECKS.dueHolds("2 <= 1 or -3 <= -4 or 5 >= 4", x, x.clause(0, 1, 1, -4, 2, 4, 4), true);
+        CHECKS.dueHolds("2 <= 1 or -3 >= -4 or 5 <= 4", x, x.clause(0, 1, 1, -4, 2, 4, 2), true);
+        CHECKS.dueHolds("2 >= 1 or -3 <= -4 or 5 <= 4", x, x.clause(0, 1, 1, -4, 2, 4, 1), true);
+        CHECKS.dueHolds("2 >= -100", x, x.clause(0, -100, -1, 0, -1, 0, 1), true);
+        CHECKS.dueHolds("2 >= 100", x, x.clause(0, 100, -1, 0, -1, 0, 1), false);
     }
 
     private static void clauseRefused() {
@@ -302,11 +286,11 @@ public final class ConstraintsTest {
 
     private static void withoutVariables() {
         ExplainingSolver x = new ExplainingSolver();
-        dueHolds("linear without variables", x, x.linear(-1, 1, -1, 1, -1, 1, 0), true);
-        dueHolds("linear without variables, -1", x, x.linear(-1, 1, -1, 1, -1, 1, -1), false);
-        dueHolds("clause without variables", x, x.clause(-1, 0, -1, 0, -1, 0, 7), false);
-        dueHolds("different without variables", x, x.different(0), true);
-        dueHolds("cumulative without variables", x, x.cumulative(0, 0, 0, 0), true);
+        CHECKS.dueHolds("linear without variables", x, x.linear(-1, 1, -1, 1, -1, 1, 0), true);
+        CHECKS.dueHolds("linear without variables, -1", x, x.linear(-1, 1, -1, 1, -1, 1, -1), false);
+        CHECKS.dueHolds("clause without variables", x, x.clause(-1, 0, -1, 0, -1, 0, 7), false);
+        CHECKS.dueHolds("different without variables", x, x.different(0), true);
+        CHECKS.dueHolds("cumulative without variables", x, x.cumulative(0, 0, 0, 0), true);
         CHECKS.due("no variable: different(1)", x.different(1), BAD);
         CHECKS.due("no variable: cumulative(1, ..)", x.cumulative(1, 0, 0, 0), BAD);
         CHECKS.due("no variable: reified", x.reified(0, 0, 0, 0), BAD);

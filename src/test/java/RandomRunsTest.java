@@ -1,6 +1,10 @@
 /** All promises together: long runs of drawn calls, each answer compared with that of Model. */
 public final class RandomRunsTest {
     private static final int RUNS = 1500;
+    /** After so many calls nothing is promised. */
+    private static final int MOST_CALLS = 512;
+    /** How many calls compareState makes. */
+    private static final int CALLS_OF_STATE = 14;
     private static final int[] WILD = {
         -2, 8, 9, -10, 10, 100, 101, -100, -101, 1000, 1001, -1000, -1001, 21, -21,
         Integer.MAX_VALUE, Integer.MIN_VALUE,
@@ -12,6 +16,7 @@ public final class RandomRunsTest {
     private final int run;
     private final int oneWildIn;
     private long state;
+    private int calls;
 
     private RandomRunsTest(int run) {
         this.run = run;
@@ -21,20 +26,25 @@ public final class RandomRunsTest {
 
     public static void main(String[] args) {
         for (int run = 0; run < RUNS; run++) {
-            new RandomRunsTest(run).go(run % 50 == 0 ? 511 : 60);
+            new RandomRunsTest(run).go(run % 50 == 0 ? MOST_CALLS : 90);
         }
         CHECKS.end();
     }
 
-    private void go(int calls) {
+    private void go(int mostCalls) {
         int starts = draw(6);
         for (int n = 0; n < starts; n++) {
             callVariable();
         }
-        for (int n = starts; n < calls; n++) {
+        // A call drawn may be compareState, and one more of that ends the run.
+        while (calls <= mostCalls - 2 * CALLS_OF_STATE) {
             callAny();
         }
+        while (calls < mostCalls - CALLS_OF_STATE) {
+            callPile();
+        }
         compareState();
+        CHECKS.due("run " + run + ": calls made", calls, mostCalls);
     }
 
     /** A number from 0 to below - 1. */
@@ -197,10 +207,12 @@ public final class RandomRunsTest {
     }
 
     private void due(String call, int got, int want) {
+        calls++;
         CHECKS.due("run " + run + ": " + call, got, want);
     }
 
     private void due(String call, boolean got, boolean want) {
+        calls++;
         CHECKS.due("run " + run + ": " + call, got, want);
     }
 }
