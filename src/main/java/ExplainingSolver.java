@@ -85,7 +85,8 @@ public final class ExplainingSolver {
     }
 
     public int maximum(int r, int i, int j, int k) {
-        boolean good = isVariable(r) && isVariable(i) && areVariablesOrAbsent(i, j, k);
+        boolean good = isVariable(r) && isVariable(i)
+                && isVariableOrAbsent(j) && isVariableOrAbsent(k);
         return good ? add(new Maximum(r, i, j, k)) : BAD;
     }
 
